@@ -1,0 +1,68 @@
+import java.lang.reflect.Constructor;
+import java.lang.reflect.Field;
+import java.lang.reflect.Member;
+import java.lang.reflect.Method;
+import java.lang.reflect.Modifier;
+import java.util.Arrays;
+import java.util.TreeSet;
+
+/** The class has the document's face, and nothing else that can be seen from outside. */
+public final class FaceTest {
+    private static final String ARGUMENT = "java.lang.IllegalArgumentException";
+    private static final String STATE = "java.lang.IllegalStateException";
+    private static final String ELEMENT = "java.util.NoSuchElementException";
+    private static final String BOUNDS = "java.lang.IndexOutOfBoundsException";
+
+    private static final String[] FACE = {
+        "public static final int LinkedIndex.FIND = 0",
+        "public static final int LinkedIndex.PUT = 1",
+        "public static final int LinkedIndex.TAKE = 2",
+        "public static final int LinkedIndex.NEXT = 3",
+        "public LinkedIndex()",
+        "public void LinkedIndex.begin(int,int,long,long) throws " + ARGUMENT + "," + STATE,
+        "public void LinkedIndex.step(int,int) throws " + ARGUMENT + "," + STATE,
+        "public long LinkedIndex.finish(int) throws " + ARGUMENT + "," + STATE + "," + ELEMENT,
+        "public boolean LinkedIndex.drop(int) throws " + ARGUMENT,
+        "public void LinkedIndex.tidy(int) throws " + ARGUMENT,
+        "public int LinkedIndex.crash()",
+        "public int LinkedIndex.kind(int) throws " + ARGUMENT,
+        "public int LinkedIndex.size()",
+        "public long LinkedIndex.key(int) throws " + BOUNDS,
+        "public long LinkedIndex.value(int) throws " + BOUNDS,
+        "public int LinkedIndex.count(long,long)",
+        "public long LinkedIndex.sum(long,long)",
+    };
+
+    public static void main(String[] args) throws IllegalAccessException {
+        TreeSet<String> seen = new TreeSet<>();
+        TreeSet<String> faceNames = new TreeSet<>();
+        for (Field field : LinkedIndex.class.getDeclaredFields()) {
+            if (isSeen(field)) {
+                seen.add(field + " = " + field.get(null));
+            }
+        }
+        for (Constructor<?> constructor : LinkedIndex.class.getDeclaredConstructors()) {
+            if (isSeen(constructor)) {
+                seen.add(constructor.toString());
+            }
+        }
+        for (Method method : LinkedIndex.class.getDeclaredMethods()) {
+            if (isSeen(method)) {
+                seen.add(method.toString());
+                faceNames.add(method.getName());
+            }
+        }
+        Checks.due("face", seen, new TreeSet<>(Arrays.asList(FACE)));
+        Checks.due("class", Modifier.toString(LinkedIndex.class.getModifiers()), "public final");
+        for (Method method : LinkedIndex.class.getDeclaredMethods()) {
+            if (!isSeen(method)) {
+                Checks.due("a public name for private " + method, faceNames.contains(method.getName()), false);
+            }
+        }
+        Checks.end();
+    }
+
+    private static boolean isSeen(Member member) {
+        return !Modifier.isPrivate(member.getModifiers());
+    }
+}
