@@ -61,12 +61,12 @@ public final class LinkedIndex {
             throws IllegalArgumentException, IllegalStateException, NoSuchElementException {
         requireSlot(slot);
         requireOperation(slot);
+        int kind = slotKinds[slot];
         int place = placeOf(slotKeys[slot]);
-        if (slotKinds[slot] == PUT) {
+        if (kind == PUT) {
             return finishPut(slot, place);
         }
-        boolean found = slotKinds[slot] == NEXT ? place < keyCount : isAt(place, slotKeys[slot]);
-        int kind = slotKinds[slot];
+        boolean found = kind == NEXT ? place < keyCount : isAt(place, slotKeys[slot]);
         // Before the throw, because the slot is empty even when nothing was found.
         slotKinds[slot] = EMPTY;
         if (!found) {
