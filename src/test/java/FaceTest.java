@@ -8,27 +8,22 @@ import java.util.TreeSet;
 
 /** The class has the document's face, and nothing else that can be seen from outside. */
 public final class FaceTest {
-    private static final String ARGUMENT = "java.lang.IllegalArgumentException";
-    private static final String STATE = "java.lang.IllegalStateException";
-    private static final String ELEMENT = "java.util.NoSuchElementException";
-    private static final String BOUNDS = "java.lang.IndexOutOfBoundsException";
-
     private static final String[] FACE = {
         "public static final int LinkedIndex.FIND = 0",
         "public static final int LinkedIndex.PUT = 1",
         "public static final int LinkedIndex.TAKE = 2",
         "public static final int LinkedIndex.NEXT = 3",
         "public LinkedIndex()",
-        "public void LinkedIndex.begin(int,int,long,long) throws " + ARGUMENT + "," + STATE,
-        "public void LinkedIndex.step(int,int) throws " + ARGUMENT + "," + STATE,
-        "public long LinkedIndex.finish(int) throws " + ARGUMENT + "," + STATE + "," + ELEMENT,
-        "public boolean LinkedIndex.drop(int) throws " + ARGUMENT,
-        "public void LinkedIndex.tidy(int) throws " + ARGUMENT,
+        "public void LinkedIndex.begin(int,int,long,long) throws " + Checks.ARGUMENT + "," + Checks.STATE,
+        "public void LinkedIndex.step(int,int) throws " + Checks.ARGUMENT + "," + Checks.STATE,
+        "public long LinkedIndex.finish(int) throws " + Checks.ARGUMENT + "," + Checks.STATE + "," + Checks.ELEMENT,
+        "public boolean LinkedIndex.drop(int) throws " + Checks.ARGUMENT,
+        "public void LinkedIndex.tidy(int) throws " + Checks.ARGUMENT,
         "public int LinkedIndex.crash()",
-        "public int LinkedIndex.kind(int) throws " + ARGUMENT,
+        "public int LinkedIndex.kind(int) throws " + Checks.ARGUMENT,
         "public int LinkedIndex.size()",
-        "public long LinkedIndex.key(int) throws " + BOUNDS,
-        "public long LinkedIndex.value(int) throws " + BOUNDS,
+        "public long LinkedIndex.key(int) throws " + Checks.BOUNDS,
+        "public long LinkedIndex.value(int) throws " + Checks.BOUNDS,
         "public int LinkedIndex.count(long,long)",
         "public long LinkedIndex.sum(long,long)",
     };
