@@ -209,7 +209,8 @@ public final class TermsTest {
         for (int slot = 0; slot < 8; slot++) {
             int used = slot;
             Checks.refused("begin in use, " + slot, Checks.STATE, Indexes::allUnderWay, x -> x.begin(used, 1, 77, 7));
-            Checks.refused("begin of no kind in " + slot, Checks.ARGUMENT, LinkedIndex::new, x -> x.begin(used, 4, 77, 7));
+            Checks.refused("begin of no kind in " + slot, Checks.ARGUMENT, LinkedIndex::new,
+                x -> x.begin(used, 4, 77, 7));
             Checks.refused("step of an empty slot " + slot, Checks.STATE, LinkedIndex::new, x -> x.step(used, 1));
             Checks.refused("21 steps in " + slot, Checks.ARGUMENT, Indexes::allUnderWay, x -> x.step(used, 21));
             Checks.refused("finish of an empty slot " + slot, Checks.STATE, LinkedIndex::new, x -> x.finish(used));
@@ -260,7 +261,8 @@ public final class TermsTest {
         for (int slot : Indexes.NOT_SLOTS) {
             String in = " in slot " + slot;
             Checks.refused("begin" + in, Checks.ARGUMENT, Indexes::underWay, x -> x.begin(slot, 1, 77, 7));
-            Checks.refused("begin, all in use," + in, Checks.ARGUMENT, Indexes::allUnderWay, x -> x.begin(slot, 1, 77, 7));
+            Checks.refused("begin, all in use," + in, Checks.ARGUMENT, Indexes::allUnderWay,
+                x -> x.begin(slot, 1, 77, 7));
             Checks.refused("step" + in, Checks.ARGUMENT, Indexes::allUnderWay, x -> x.step(slot, 1));
             Checks.refused("step, all empty," + in, Checks.ARGUMENT, LinkedIndex::new, x -> x.step(slot, 1));
             Checks.refused("finish" + in, Checks.ARGUMENT, Indexes::allUnderWay, x -> x.finish(slot));
